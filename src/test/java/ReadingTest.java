@@ -1,0 +1,262 @@
+/** Promises 5 and 6: feed and load, and how the steps of an expression are counted. */
+public final class ReadingTest {
+    private ReadingTest() {
+    }
+
+    public static void main(String[] args) {
+        feedTakesBytes();
+        feedEndsAt100();
+        feedRefuses();
+        loadTakesAll();
+        loadFindsTheFirstWrongOne();
+        loadWantsMore();
+        loadLimitsGroups();
+        loadLimitsSteps();
+        loadLeavesAnEmptyRow();
+        loadRefuses();
+        loadKnowsEveryCharacter();
+        Check.end();
+    }
+
+    /** Promise 5. */
+    private static void feedTakesBytes() {
+        PathDesk desk = new PathDesk();
+        desk.edge(0, 0, 1);
+        desk.edge(1, 1, 2);
+        Check.due("the lowest two bytes", 2, () -> desk.feed(0x7A7A7A7A7A7A6162L, 2));
+        Check.due("they are ab", 0, () -> desk.load(0));
+        Check.due("a, then b", Check.nodes(2), () -> desk.reach(0, 0, false));
+        Check.due("eight bytes", 8, () -> desk.feed(0x6162636465666768L, 8));
+        Check.due("one byte behind them", 9, () -> desk.feed('a', 1));
+        Check.due("nine wait", 9, () -> desk.count(1));
+        Check.due("all are letters", 0, () -> desk.load(0));
+        Check.due("nine steps", 9, () -> desk.count(2));
+        Check.due("bytes above 127", 8, () -> desk.feed(-1L, 8));
+        Check.due("can't be there", 1, () -> desk.load(0));
+        desk.feed('a' | 0xFF00, 2);
+        Check.due("the highest byte comes first", 1, () -> desk.load(0));
+    }
+
+    private static void feedEndsAt100() {
+        PathDesk desk = new PathDesk();
+        for (int i = 1; i <= 12; i++) {
+            Check.due("feed " + i, 8 * i, () -> desk.feed(0x2828282828282828L, 8));
+        }
+        Check.due("five more are too many", PathDesk.NONE, () -> desk.feed(0, 5));
+        Check.due("none of them came", 96, () -> desk.count(1));
+        Check.due("four more", 100, () -> desk.feed(0x61616161L, 4));
+        Check.due("one more is too many", PathDesk.NONE, () -> desk.feed('a', 1));
+        Check.noArgument("a wrong n comes first", () -> desk.feed('a', 9));
+        Check.due("100 wait", 100, () -> desk.count(1));
+        desk.load(0);
+        Check.due("there is room again", 1, () -> desk.feed('a', 1));
+    }
+
+    private static void feedRefuses() {
+        PathDesk desk = new PathDesk();
+        for (int n : new int[] {0, -1, 9, 64, Integer.MIN_VALUE, Integer.MAX_VALUE}) {
+            Check.noArgument("feed of " + n, () -> desk.feed('a', n));
+        }
+        Check.due("nothing came", 0, () -> desk.count(1));
+    }
+
+    /** Promise 6. */
+    private static void loadTakesAll() {
+        steps("", 0);
+        steps("()", 0);
+        steps("|", 0);
+        steps("||a||", 1);
+        steps("(|)*+?{9}{0,9}", 0);
+        steps("abcdefgh", 8);
+        steps("^a^b^.", 3);
+        steps(".", 1);
+        steps("[0][1][2][3][!0][!1][!2][!3]", 8);
+        steps("a*+?*+?", 1);
+        steps("a{1}", 1);
+        steps("a{0,1}", 1);
+        steps("a{9,9}", 9);
+        steps("a{0,9}", 9);
+        steps("ab{3}", 4);
+        steps("(ab){3}", 6);
+        steps("(a|b|)c{2}{3}", 8);
+        steps("a{2}*{3}", 6);
+        steps("([1]a){2,4}^b", 9);
+        steps("((((((((((a))))))))))", 1);
+        steps("((((((((((a))))))))))((((((((((b))))))))))", 2);
+        steps("(){9}{9}{9}{9}{9}{9}{9}{9}{9}{9}{9}{9}{9}{9}{9}{9}{9}{9}{9}{9}{9}{9}{9}{9}{9}{9}{9}{9}{9}{9}{9}{9}", 0);
+    }
+
+    private static void steps(String text, int steps) {
+        PathDesk desk = new PathDesk();
+        Check.due("load of " + text, 0, () -> Check.load(desk, 3, text));
+        Check.due("steps of " + text, steps, () -> desk.count(5));
+        Check.due("none waits after " + text, 0, () -> desk.count(1));
+    }
+
+    private static void wrongAt(String text, int place) {
+        PathDesk desk = new PathDesk();
+        Check.due("load of " + text, 1 + place, () -> Check.load(desk, 2, text));
+        Check.due("none waits after " + text, 0, () -> desk.count(1));
+        Check.due("steps after " + text, 0, () -> desk.count(4));
+    }
+
+    private static void loadFindsTheFirstWrongOne() {
+        wrongAt("*", 0);
+        wrongAt("+", 0);
+        wrongAt("?a", 0);
+        wrongAt("{1}", 0);
+        wrongAt("a|*", 2);
+        wrongAt("(+)", 1);
+        wrongAt("a({2})", 2);
+        wrongAt(")", 0);
+        wrongAt("(a))b", 3);
+        wrongAt("]", 0);
+        wrongAt("a}", 1);
+        wrongAt("a,", 1);
+        wrongAt("a!", 1);
+        wrongAt("1", 0);
+        wrongAt("a b", 1);
+        wrongAt("i", 0);
+        wrongAt("A", 0);
+        wrongAt("abz*", 2);
+        wrongAt("^^a", 1);
+        wrongAt("^(a)", 1);
+        wrongAt("^[0]", 1);
+        wrongAt("^i", 1);
+        wrongAt("^*", 1);
+        wrongAt("[]", 1);
+        wrongAt("[a]", 1);
+        wrongAt("[4]", 1);
+        wrongAt("[!4]", 2);
+        wrongAt("[!!1]", 2);
+        wrongAt("[!]", 2);
+        wrongAt("[12]", 2);
+        wrongAt("[1*", 2);
+        wrongAt("[!1)", 3);
+        wrongAt("a{}", 2);
+        wrongAt("a{,2}", 2);
+        wrongAt("a{x", 2);
+        wrongAt("a{0}", 3);
+        wrongAt("a{10}", 3);
+        wrongAt("a{1;2}", 3);
+        wrongAt("a{1,}", 4);
+        wrongAt("a{0,0}", 4);
+        wrongAt("a{3,2}", 4);
+        wrongAt("a{9,8}", 4);
+        wrongAt("a{1,a}", 4);
+        wrongAt("a{1,23}", 5);
+        wrongAt("a{1,2,3}", 5);
+        wrongAt("a{1,2)", 5);
+        wrongAt("a{9}{9}!", 7);
+    }
+
+    private static void loadWantsMore() {
+        for (String text : new String[] {"(", "a(b", "(a|", "((a)", "^", "a^", "[", "[!", "[1", "[!1",
+                "a{", "a{0", "a{1", "a{1,", "a{1,2", "(a{9}){9}{9}("}) {
+            wrongAt(text, text.length());
+        }
+        wrongAt("a".repeat(99) + "(", 100);
+    }
+
+    private static void loadLimitsGroups() {
+        String ten = "(".repeat(10);
+        steps(ten + ")".repeat(10), 0);
+        steps(ten + ")(" + ")".repeat(10) + "()", 0);
+        wrongAt(ten + "(", 10);
+        wrongAt(ten + "a)((", 13);
+        wrongAt("a" + ten, 11);
+        wrongAt("(a)" + ten + "b(", 14);
+    }
+
+    private static void loadLimitsSteps() {
+        steps("a".repeat(80), 80);
+        steps("a{9}{8}a{8}", 80);
+        steps("(a{5}b{5}){8}", 80);
+        steps("(a{8}|[1]{2}){8}", 80);
+        tooMany("a".repeat(81));
+        tooMany("a{9}{9}");
+        tooMany("a{0,9}{0,9}");
+        tooMany("(a{5}b{5}){8}c");
+        tooMany("(a{8}|[1]{2}){8}|[1]");
+        tooMany("a" + "{9}".repeat(33));
+        tooMany("(" + "a" + "{9}".repeat(31) + "){1}*");
+        tooMany("." + "(a{9})".repeat(9));
+        wrongAt("a{9}{9}{9})", 10);
+        wrongAt("a{9}{9}{9}(", 11);
+    }
+
+    private static void tooMany(String text) {
+        PathDesk desk = new PathDesk();
+        Check.due("load of " + text, -2, () -> Check.load(desk, 2, text));
+        Check.due("none waits after " + text, 0, () -> desk.count(1));
+        Check.due("steps after " + text, 0, () -> desk.count(4));
+        Check.due("pairs after " + text, 32, () -> desk.pairs(2, 2, 0));
+    }
+
+    private static void loadLeavesAnEmptyRow() {
+        PathDesk desk = new PathDesk();
+        desk.edge(0, 0, 1);
+        String[] told = {"aa)", "a(", "a{9}{9}"};
+        for (String text : told) {
+            Check.load(desk, 1, "a");
+            Check.load(desk, 2, "a");
+            Check.due("a has one pair", 1, () -> desk.pairs(1, 1, 0));
+            Check.load(desk, 1, text);
+            Check.due("an empty row after " + text, 32, () -> desk.pairs(1, 1, 0));
+            Check.due("no step after " + text, 0, () -> desk.count(3));
+            Check.due("the other slot stays", 1, () -> desk.pairs(2, 2, 0));
+        }
+        Check.load(desk, 1, "a");
+        Check.due("load of nothing", 0, () -> desk.load(1));
+        Check.due("an empty row", 32, () -> desk.pairs(1, 1, 0));
+    }
+
+    private static void loadRefuses() {
+        PathDesk desk = new PathDesk();
+        Check.feed(desk, "ab");
+        for (int slot : new int[] {-1, 4, Integer.MIN_VALUE, Integer.MAX_VALUE}) {
+            Check.noIndex("load(" + slot + ")", () -> desk.load(slot));
+        }
+        Check.due("the characters still wait", 2, () -> desk.count(1));
+        Check.due("and are an expression", 0, () -> desk.load(0));
+        Check.due("of two steps", 2, () -> desk.count(2));
+    }
+
+    /** Each byte in each place where the document tells what may come. */
+    private static void loadKnowsEveryCharacter() {
+        String letters = "abcdefgh.";
+        eachByte("", letters + "|", "^[(");
+        eachByte("(", ")", letters + "|^[(");
+        eachByte("a", letters + "|*+?", "^[({");
+        eachByte("a|", letters + "|", "^[(");
+        eachByte("(a|", ")", letters + "|^[(");
+        eachByte("^", letters, "");
+        eachByte("[", "", "!0123");
+        eachByte("[!", "", "0123");
+        eachByte("[2", "]", "");
+        eachByte("a{", "", "0123456789");
+        eachByte("a{0", "", ",");
+        eachByte("a{4", "}", ",");
+        eachByte("a{0,", "", "123456789");
+        eachByte("a{4,", "", "456789");
+        eachByte("a{4,5", "}", "");
+        eachByte("a{4}", letters + "|*+?", "^[({");
+        eachByte("[1]", letters + "|*+?", "^[({");
+        eachByte("()", letters + "|*+?", "^[({");
+    }
+
+    /** Behind some characters: those with which all may end, and those behind which more must come. */
+    private static void eachByte(String ahead, String ending, String goingOn) {
+        for (char c = 0; c < 256; c++) {
+            String text = ahead + c;
+            int due = text.length();
+            if (ending.indexOf(c) >= 0) {
+                due = 0;
+            } else if (goingOn.indexOf(c) >= 0) {
+                due = 1 + text.length();
+            }
+            PathDesk desk = new PathDesk();
+            Check.due("load of " + ahead + " and byte " + (int) c, due, () -> Check.load(desk, 0, text));
+        }
+    }
+}
