@@ -184,15 +184,22 @@ public final class PathDesk {
         if (what < FIRST_TAG_COUNT) {
             return graph.edgesOf(what - FIRST_LABEL_COUNT);
         }
-        return Integer.bitCount(graph.tagged[what - FIRST_TAG_COUNT]);
+        return Integer.bitCount(graph.nodesWith(what - FIRST_TAG_COUNT));
     }
 
     private Relation relationOf(int slot) {
+        Relation relation = relations[slot];
         if (!known[slot]) {
-            bench.workOut(expressions[slot], graph, relations[slot]);
+            Expression told = expressions[slot];
+            bench.clear();
+            for (int place = 0; place < told.size; place++) {
+                bench.carryOut(told.orders[place], graph);
+            }
+            relation.clear();
+            relation.addAll(bench.top());
             known[slot] = true;
         }
-        return relations[slot];
+        return relation;
     }
 
     private void forgetRelations() {
@@ -223,10 +230,6 @@ public final class PathDesk {
         return (nodes >>> node & 1) != 0;
     }
 
-    private static int lowestOf(int nodes) {
-        return Integer.bitCount((nodes & -nodes) - 1);
-    }
-
     /** The edges and the tags. */
     private static final class Graph {
         private final int[] targets = new int[LABELS * NODES];
@@ -253,6 +256,10 @@ public final class PathDesk {
             } else {
                 tagged[tag] &= ~(1 << node);
             }
+        }
+
+        int nodesWith(int tag) {
+            return tagged[tag];
         }
 
         int edgesOf(int label) {
@@ -286,8 +293,9 @@ public final class PathDesk {
 
         void offer(int from, int to, int length) {
             int place = from * NODES + to;
-            if (!isIn(targets[from], to) || length < lengths[place]) {
-                targets[from] |= 1 << to;
+            int bit = 1 << to;
+            if ((targets[from] & bit) == 0 || length < lengths[place]) {
+                targets[from] |= bit;
                 lengths[place] = length;
             }
         }
@@ -302,10 +310,11 @@ public final class PathDesk {
 
         void addEdges(Graph graph, int labels, boolean backwards) {
             for (int from = 0; from < NODES; from++) {
-                int rest = graph.nextOf(from, labels);
-                for (int turn = 0; turn < NODES && rest != 0; turn++) {
-                    int to = lowestOf(rest);
-                    rest &= rest - 1;
+                int next = graph.nextOf(from, labels);
+                for (int to = 0; to < NODES && next >>> to != 0; to++) {
+                    if (!isIn(next, to)) {
+                        continue;
+                    }
                     if (backwards) {
                         offer(to, from, 1);
                     } else {
@@ -325,11 +334,11 @@ public final class PathDesk {
         void setToChain(Relation first, Relation second) {
             clear();
             for (int from = 0; from < NODES; from++) {
-                int rest = first.targets[from];
-                for (int turn = 0; turn < NODES && rest != 0; turn++) {
-                    int via = lowestOf(rest);
-                    rest &= rest - 1;
-                    addGoingOn(from, first.lengths[from * NODES + via], second, via);
+                int ends = first.targets[from];
+                for (int via = 0; via < NODES && ends >>> via != 0; via++) {
+                    if (isIn(ends, via)) {
+                        addGoingOn(from, first.lengths[from * NODES + via], second, via);
+                    }
                 }
             }
         }
@@ -348,12 +357,13 @@ public final class PathDesk {
             }
         }
 
+        /** Adds a node's paths that go to via in some length and on from there by a pair of next. */
         private void addGoingOn(int from, int length, Relation next, int via) {
-            int rest = next.targets[via];
-            for (int turn = 0; turn < NODES && rest != 0; turn++) {
-                int to = lowestOf(rest);
-                rest &= rest - 1;
-                offer(from, to, length + next.lengths[via * NODES + to]);
+            int ends = next.targets[via];
+            for (int to = 0; to < NODES && ends >>> to != 0; to++) {
+                if (isIn(ends, to)) {
+                    offer(from, to, length + next.lengths[via * NODES + to]);
+                }
             }
         }
 
@@ -527,7 +537,8 @@ public final class PathDesk {
         int read(int[] characters, int n, Expression into) {
             start(into);
             for (int place = 0; place < n; place++) {
-                if (!take(characters[place])) {
+                int character = characters[place];
+                if (!(state == IN_ROW ? takeInRow(character) : takeInside(character))) {
                     return place;
                 }
             }
@@ -544,10 +555,12 @@ public final class PathDesk {
             told.clear();
             state = IN_ROW;
             open = 0;
+            inRepeat = false;
             startAlternative();
         }
 
-        private boolean take(int character) {
+        /** Takes what stands inside a step or a { }, behind its first character. */
+        private boolean takeInside(int character) {
             switch (state) {
                 case BEHIND_HAT:
                     return takeStep(character, Expression.BACKWARDS);
@@ -563,10 +576,8 @@ public final class PathDesk {
                     return character == ',' ? goOnTo(BEHIND_COMMA) : takeBraceEnd(character);
                 case BEHIND_COMMA:
                     return takeMost(character);
-                case BEHIND_MOST:
-                    return takeBraceEnd(character);
                 default:
-                    return takeInRow(character);
+                    return takeBraceEnd(character);
             }
         }
 
@@ -578,7 +589,7 @@ public final class PathDesk {
                     return closeGroup();
                 case '|':
                     endRow();
-                    startRow();
+                    told.append(Expression.STAYS, 0);
                     return true;
                 case '^':
                     return goOnTo(BEHIND_HAT);
@@ -680,12 +691,7 @@ public final class PathDesk {
         private void startAlternative() {
             endedSteps[open] = 0;
             told.append(Expression.NOTHING, 0);
-            startRow();
-        }
-
-        private void startRow() {
             told.append(Expression.STAYS, 0);
-            inRepeat = false;
         }
 
         private void endRow() {
@@ -727,105 +733,97 @@ public final class PathDesk {
         private int height = 0;
         private Relation spare = new Relation();
 
-        void workOut(Expression told, Graph graph, Relation into) {
+        void clear() {
             height = 0;
-            for (int place = 0; place < told.size; place++) {
-                int order = told.orders[place];
-                carryOut(order & Expression.KIND_MASK, order >>> Expression.KIND_BITS, graph);
-            }
-            into.clear();
-            into.addAll(at(0));
         }
 
-        private void carryOut(int kind, int more, Graph graph) {
-            if (kind < Expression.CHAIN) {
-                layDown(kind, more, graph);
-            } else if (kind <= Expression.JOIN) {
-                makeOne(kind);
-            } else {
-                changeTop(kind, more);
-            }
+        Relation top() {
+            return at(height - 1);
         }
 
-        private void layDown(int kind, int more, Graph graph) {
-            Relation relation = layDownNothing();
-            switch (kind) {
+        void carryOut(int order, Graph graph) {
+            int more = order >>> Expression.KIND_BITS;
+            switch (order & Expression.KIND_MASK) {
+                case Expression.NOTHING:
+                    layDown();
+                    break;
                 case Expression.STAYS:
-                    relation.addStays(ALL_NODES);
+                    layDown().addStays(ALL_NODES);
                     break;
                 case Expression.FORWARDS:
-                    relation.addEdges(graph, more, false);
+                    layDown().addEdges(graph, more, false);
                     break;
                 case Expression.BACKWARDS:
-                    relation.addEdges(graph, more, true);
+                    layDown().addEdges(graph, more, true);
                     break;
                 case Expression.HAS_TAG:
-                    relation.addStays(graph.tagged[more]);
+                    layDown().addStays(graph.nodesWith(more));
                     break;
                 case Expression.HAS_NOT_TAG:
-                    relation.addStays(~graph.tagged[more]);
+                    layDown().addStays(~graph.nodesWith(more));
+                    break;
+                case Expression.CHAIN:
+                    chainTwo();
+                    break;
+                case Expression.JOIN:
+                    joinTwo();
+                    break;
+                case Expression.STAR:
+                    top().repeatAtWill();
+                    top().addStays(ALL_NODES);
+                    break;
+                case Expression.PLUS:
+                    top().repeatAtWill();
+                    break;
+                case Expression.MAYBE:
+                    top().addStays(ALL_NODES);
                     break;
                 default:
+                    copyTop(more / Expression.TIMES_BASE, more % Expression.TIMES_BASE);
                     break;
             }
         }
 
-        /** Made when first needed, since few expressions need a high pile, and then used again. */
+        /**
+         * Made when first needed, since few expressions need a high pile, and then used again. What
+         * the reader writes stays inside the pile; the bounds here make that plain.
+         */
         private Relation at(int place) {
-            if (pile[place] == null) {
-                pile[place] = new Relation();
+            int inside = Math.max(0, Math.min(place, MOST_HIGH - 1));
+            if (pile[inside] == null) {
+                pile[inside] = new Relation();
             }
-            return pile[place];
+            return pile[inside];
         }
 
-        private Relation layDownNothing() {
-            // The reader opens too few groups for this to be so; it keeps the place inside the pile.
-            if (height == MOST_HIGH) {
-                height--;
-            }
-            Relation relation = at(height);
+        private Relation layDown() {
+            height = Math.min(height + 1, MOST_HIGH);
+            Relation relation = at(height - 1);
             relation.clear();
-            height++;
             return relation;
         }
 
-        private void makeOne(int kind) {
-            if (height < 2) {
-                return;
+        private void joinTwo() {
+            if (height >= 2) {
+                height--;
+                top().addAll(at(height));
             }
-            height--;
-            Relation first = at(height - 1);
-            Relation second = at(height);
-            if (kind == Expression.JOIN) {
-                first.addAll(second);
-            } else {
-                spare.setToChain(first, second);
+        }
+
+        private void chainTwo() {
+            if (height >= 2) {
+                height--;
+                Relation first = top();
+                spare.setToChain(first, at(height));
                 pile[height - 1] = spare;
                 spare = first;
             }
         }
 
-        private void changeTop(int kind, int more) {
-            if (height < 1) {
-                return;
-            }
-            if (kind == Expression.TIMES) {
-                copyTop(more / Expression.TIMES_BASE, more % Expression.TIMES_BASE);
-                return;
-            }
-            Relation top = at(height - 1);
-            if (kind != Expression.MAYBE) {
-                top.repeatAtWill();
-            }
-            if (kind != Expression.PLUS) {
-                top.addStays(ALL_NODES);
-            }
-        }
-
         /** All copies are of the same relation, so it is no matter that the last comes first. */
         private void copyTop(int least, int most) {
-            Relation one = at(height - 1);
-            Relation done = layDownNothing();
+            Relation one = top();
+            Relation done = layDown();
             done.addStays(ALL_NODES);
             for (int turn = 0; turn < most; turn++) {
                 Relation next = spare;
@@ -836,9 +834,11 @@ public final class PathDesk {
                 spare = done;
                 done = next;
             }
-            height--;
-            pile[height - 1] = done;
-            pile[height] = one;
+            if (height >= 2) {
+                height--;
+                pile[height - 1] = done;
+                pile[height] = one;
+            }
         }
     }
 }

@@ -11,6 +11,7 @@ public final class QuestionTest {
         repeatsMatch();
         countedRepeatsMatch();
         rowsAndAlternativesMatch();
+        nodesWithAllAsTargets();
         reachAnswers();
         distanceAnswers();
         distanceTakesTheShortest();
@@ -140,6 +141,25 @@ public final class QuestionTest {
         reached(desk, "a(a(b(c(a(a(b(c(a(a(b))))))))))", 0, 3);
         reached(desk, "a*[1]b", 0, 3);
         reached(desk, "a*[!1]b", 0);
+        reached(desk, "|".repeat(99) + "b", 2, 2, 3);
+        reached(desk, "()".repeat(49) + "ab", 1, 3);
+        reached(desk, "a|".repeat(49) + "ab", 1, 2, 3);
+    }
+
+    private static void nodesWithAllAsTargets() {
+        PathDesk desk = new PathDesk();
+        for (int node = 0; node < 32; node++) {
+            desk.edge(5, 0, node);
+        }
+        desk.edge(31, 1, 0);
+        Check.load(desk, 0, "a");
+        Check.due("a to all", -1, () -> desk.reach(0, 5, false));
+        Check.load(desk, 0, "ab");
+        Check.due("by way of the last of all", Check.nodes(0), () -> desk.reach(0, 5, false));
+        Check.load(desk, 0, "a+");
+        Check.due("a+ to all", -1, () -> desk.reach(0, 5, false));
+        Check.load(desk, 0, "^a");
+        Check.due("^a from the last of all", Check.nodes(5), () -> desk.reach(0, 31, false));
     }
 
     /** Promise 7. */
@@ -150,6 +170,8 @@ public final class QuestionTest {
         Check.due("to 3", Check.nodes(1, 2), () -> desk.reach(2, 3, true));
         Check.due("to 2", Check.nodes(1, 2), () -> desk.reach(2, 2, true));
         Check.due("to 0", 0, () -> desk.reach(2, 0, true));
+        Check.load(desk, 1, "c?a*");
+        Check.due("from 0 and others to 1", Check.nodes(0, 1, 3), () -> desk.reach(1, 1, true));
         Check.due("an empty row to 31", Check.nodes(31), () -> desk.reach(0, 31, true));
         for (int node : NO_NODES) {
             Check.noArgument("reach of node " + node, () -> desk.reach(2, node, false));
@@ -217,6 +239,8 @@ public final class QuestionTest {
         Check.due("an empty row", 0, () -> desk.span(1));
         Check.load(desk, 0, "a*");
         Check.due("a*", 31, () -> desk.span(0));
+        Check.load(desk, 0, "^a*");
+        Check.due("^a*, the other way", 31, () -> desk.span(0));
         Check.load(desk, 0, "a{0,7}");
         Check.due("a{0,7}", 7, () -> desk.span(0));
         Check.load(desk, 0, "b");

@@ -98,6 +98,15 @@ public final class ReadingTest {
         Check.due("load of " + text, 1 + place, () -> Check.load(desk, 2, text));
         Check.due("none waits after " + text, 0, () -> desk.count(1));
         Check.due("steps after " + text, 0, () -> desk.count(4));
+        startsAnew(desk, text);
+    }
+
+    /** Whatever was wrong, the next load knows nothing of it. */
+    private static void startsAnew(PathDesk desk, String text) {
+        Check.due("load of * after " + text, 1, () -> Check.load(desk, 2, "*"));
+        Check.due("load of a) after " + text, 2, () -> Check.load(desk, 2, "a)"));
+        Check.due("load of ab{2} after " + text, 0, () -> Check.load(desk, 2, "ab{2}"));
+        Check.due("steps of ab{2} after " + text, 3, () -> desk.count(4));
     }
 
     private static void loadFindsTheFirstWrongOne() {
@@ -191,6 +200,7 @@ public final class ReadingTest {
         Check.due("none waits after " + text, 0, () -> desk.count(1));
         Check.due("steps after " + text, 0, () -> desk.count(4));
         Check.due("pairs after " + text, 32, () -> desk.pairs(2, 2, 0));
+        startsAnew(desk, text);
     }
 
     private static void loadLeavesAnEmptyRow() {
