@@ -118,6 +118,8 @@ public final class QuestionTest {
         reached(desk, "a+{2}", 28, 30, 31);
         reached(desk, "a{9}{8}a{8}", 0);
         reached(desk, "((a{2}){2}){2}", 0, 8);
+        reached(desk, "((((((((((a{2,3}))))))))))", 0, 2, 3);
+        reached(desk, "a(".repeat(10) + "a{2,3}" + ")".repeat(10), 0, 12, 13);
         desk.edge(31, 0, 0);
         reached(desk, "a{9}{8}a{8}", 0, 80 % 32);
     }
