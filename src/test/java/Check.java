@@ -48,9 +48,9 @@ final class Check {
         return answer ? 1 : 0;
     }
 
-    /** Feeds a text in portions of at most 8 and answers what the last feed did. */
+    /** Feeds a text in portions of at most 8 and answers what the last feed did, 0 when there is none. */
     static int feed(PathDesk desk, String text) {
-        int answer = desk.count(1);
+        int answer = 0;
         for (int start = 0; start < text.length(); start += 8) {
             int end = Math.min(start + 8, text.length());
             long chars = 0;
@@ -63,8 +63,30 @@ final class Check {
     }
 
     static int load(PathDesk desk, int slot, String text) {
+        if (text.length() > 100) {
+            throw new IllegalStateException("the test's own text is too long");
+        }
         feed(desk, text);
         return desk.load(slot);
+    }
+
+    /** Whether a slot has an empty row, in 73 calls: no steps, and each node a pair with itself alone. */
+    static void emptyRow(String when, PathDesk desk, int slot) {
+        String what = when + ", slot " + slot + ": ";
+        due(what + "steps", 0, () -> desk.count(2 + slot));
+        due(what + "pairs", 32, () -> desk.pairs(slot, slot, 0));
+        due(what + "span", 0, () -> desk.span(slot));
+        due(what + "circle", 0, () -> desk.circle(slot));
+        due(what + "best", 0, () -> desk.best(slot));
+        due(what + "distance of 0", 0, () -> desk.distance(slot, 0, 0));
+        due(what + "distance of 31", 0, () -> desk.distance(slot, 31, 31));
+        due(what + "distance from 0 to 31", PathDesk.NONE, () -> desk.distance(slot, 0, 31));
+        due(what + "distance from 31 to 0", PathDesk.NONE, () -> desk.distance(slot, 31, 0));
+        for (int n = 0; n < 32; n++) {
+            int node = n;
+            due(what + "reach from " + n, 1 << node, () -> desk.reach(slot, node, false));
+            due(what + "reach to " + n, 1 << node, () -> desk.reach(slot, node, true));
+        }
     }
 
     /** A set of nodes as the bits that reach answers. */

@@ -24,16 +24,21 @@ final class Model {
     private final boolean[][] tags = new boolean[32][4];
     private final String[] told = {"", "", "", ""};
     private String characters = "";
+    /** The distances of a slot, null when something has changed since. */
+    private final int[][][] known = new int[4][][];
 
     boolean edge(int from, int label, int to) {
+        Arrays.fill(known, null);
         return edges.size() < 300 && edges.add(new Edge(from, label, to));
     }
 
     boolean cut(int from, int label, int to) {
+        Arrays.fill(known, null);
         return edges.remove(new Edge(from, label, to));
     }
 
     void tag(int node, int tag, boolean on) {
+        Arrays.fill(known, null);
         tags[node][tag] = on;
     }
 
@@ -48,6 +53,7 @@ final class Model {
     }
 
     int load(int slot) {
+        Arrays.fill(known, null);
         String text = characters;
         characters = "";
         told[slot] = "";
@@ -87,12 +93,15 @@ final class Model {
 
     /** The shortest length for each pair, -1 without one. */
     int[][] distances(int slot) {
-        Net net = new Net(told[slot]);
-        int[][] all = new int[32][];
-        for (int node = 0; node < 32; node++) {
-            all[node] = distancesFrom(node, net);
+        if (known[slot] == null) {
+            Net net = new Net(told[slot]);
+            int[][] all = new int[32][];
+            for (int node = 0; node < 32; node++) {
+                all[node] = distancesFrom(node, net);
+            }
+            known[slot] = all;
         }
-        return all;
+        return known[slot];
     }
 
     int reach(int slot, int node, boolean backwards) {

